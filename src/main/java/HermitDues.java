@@ -497,7 +497,7 @@ public final class HermitDues {
         }
 
         int joy(int t, int f, int ahead) {
-            if (f == NOBODY || isWinter(t)) {
+            if (!hasFamily(f) || isWinter(t)) {
                 return 0;
             }
             int whole = numbers[f][seasons[t] == MILD ? MILD_JOY : SUMMER_JOY];

@@ -13,6 +13,7 @@ public final class DoneTest {
         years();
         yearsEnd();
         undoing();
+        undoingYears();
         tenAreKnown();
         present();
         CHECK.end();
@@ -134,6 +135,24 @@ public final class DoneTest {
         CHECK.same("what was seen stays", x.count(3), 1);
     }
 
+    private static void undoingYears() {
+        HermitDues x = Check.told(GROTTO);
+        x.gives(0, 1);
+        for (int i = 0; i < 4; i++) {
+            x.year();
+        }
+        for (int years = 3; years >= 0; years--) {
+            CHECK.same("undo()", x.undo(), years + 1);
+            CHECK.same("years", x.now(0), years);
+            CHECK.same("chest", x.now(1), 14 * years);
+            CHECK.same("store 0", x.family(0, 8), -10 * years);
+            CHECK.same("store 1", x.family(1, 8), 4 * years);
+            CHECK.same("forgotten 0", x.family(0, 9), years);
+            CHECK.same("forgotten 1", x.family(1, 9), 0);
+            CHECK.same("forgotten 2", x.family(2, 9), years);
+        }
+    }
+
     private static void tenAreKnown() {
         HermitDues x = Check.told("tm;f1 1 2 0 0;f1 1 2 0 0;");
         for (int i = 0; i < 13; i++) {
@@ -162,6 +181,11 @@ public final class DoneTest {
         CHECK.same("now(2)", x.now(2), 11);
         CHECK.same("now(3)", x.now(3), -4);
         CHECK.same("now(5)", x.now(5), 6);
+        CHECK.same("now(4)", x.now(4), 2);
+        x.gives(0, -1);
+        CHECK.same("now(4): family 0, too", x.now(4), 3);
+        x.gives(3, -1);
+        CHECK.same("now(4): all", x.now(4), 7);
         CHECK.same("now(-1)", x.now(-1), NO);
         CHECK.same("now(6)", x.now(6), NO);
         CHECK.same("now(max)", x.now(Integer.MAX_VALUE), NO);

@@ -229,6 +229,24 @@ public final class GrottoTest {
         CHECK.same("most anew", x.most(-1), 0);
         CHECK.same("fair anew", x.fair(-1), -4);
         CHECK.same("cheese anew", x.cheese(-1), 0);
+        readOften();
+    }
+
+    /** Each text tells all: what an earlier one told is gone, however far back. */
+    private static void readOften() {
+        HermitDues x = new HermitDues();
+        for (int i = 0; i < 4; i++) {
+            Check.type(x, "tms;f9 9 9 3 63;h7;");
+            CHECK.same("grotto() with all", x.grotto(), 3);
+            CHECK.same("walks", x.count(2), 7);
+            for (int j = 0; j <= i; j++) {
+                Check.type(x, j % 2 == 0 ? "" : "f1 1 1 1 1;");
+                CHECK.same("grotto() with less", x.grotto(), j % 2);
+                CHECK.same("turns", x.count(0), 0);
+                CHECK.same("families", x.count(1), j % 2);
+                CHECK.same("walks", x.count(2), 0);
+            }
+        }
     }
 
     /** One whose every part has been changed once. */

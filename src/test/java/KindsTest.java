@@ -10,6 +10,7 @@ public final class KindsTest {
         marks();
         images();
         imagesKeepWhatMayBeUndone();
+        imagesKeepAllTen();
         counts();
         CHECK.end();
     }
@@ -84,6 +85,7 @@ public final class KindsTest {
         CHECK.same("text is not kept", x.count(5), 2);
         CHECK.same("back(0)", x.back(0), 3);
         CHECK.same("turn 1", x.turn(1, 1), 0);
+        CHECK.same("forgotten 0", x.family(0, 9), 1);
         CHECK.same("store 0", x.family(0, 8), -12);
         CHECK.same("chest", x.now(1), 42);
         x.gives(0, 0);
@@ -116,6 +118,29 @@ public final class KindsTest {
         x.gives(0, 0);
         CHECK.same("back(1)", x.back(1), 0);
         CHECK.same("undoable", x.count(4), 2);
+    }
+
+    private static void imagesKeepAllTen() {
+        HermitDues x = Check.told("tm;f3 1 1 1 1;f1 1 2 1 1;");
+        for (int i = 0; i < 11; i++) {
+            x.year();
+        }
+        x.keep(0);
+        for (int i = 0; i < 10; i++) {
+            x.gives(0, i % 2);
+        }
+        CHECK.same("back(0)", x.back(0), 11);
+        for (int years = 10; years >= 1; years--) {
+            CHECK.same("undo()", x.undo(), years - 1);
+            CHECK.same("turn 0", x.turn(0, 1), NONE);
+            CHECK.same("years", x.now(0), years);
+            CHECK.same("chest", x.now(1), 3 * years);
+            CHECK.same("store", x.family(1, 8), -2 * years);
+            CHECK.same("forgotten", x.family(1, 9), years);
+        }
+        CHECK.same("undo()", x.undo(), STATE);
+        CHECK.same("back(0): forgotten anew", x.back(0), 11);
+        CHECK.same("forgotten", x.family(0, 9), 11);
     }
 
     private static void counts() {
