@@ -107,6 +107,8 @@ public final class AskBoundsTest {
         fair("tmmmmmm;" + GREATEST.repeat(5), -10, 0, 1, 0, 2, 3, 4);
         fair("tmwwwww;" + GREATEST.repeat(5), -30, 0);
         fair("tmm;f20 20 30 0 0;f0 0 0 0 0;", 0, 0, 0);
+        // more by 1, however much JOY it costs
+        fair("tmm;f20 0 0 0 0;f1 0 0 0 0;", 1, 0, 1);
     }
 
     private static void fairWithoutFamilies() {
@@ -272,6 +274,26 @@ public final class AskBoundsTest {
         for (int by = 0; by <= 10; by++) {
             odds(x, by, two[by][0], two[by][1]);
         }
+        // every number that divides 100 is a lower one
+        HermitDues y = Check.told("tmmmmm;f2 0 0 0 0;f1 0 0 0 0;");
+        Check.give(y, 0, 0, 1, 1);
+        odds(y, 0, 4, 1);
+        odds(y, 1, 189, 50);
+        Check.give(y, 0, 0, -1, 1, 1);
+        odds(y, 1, 189, 50);
+        Check.give(y, 1, 1, -1, 1, 1);
+        odds(y, 1, 99, 50);
+        odds(y, 2, 48, 25);
+        odds(y, 5, 3, 2);
+        Check.give(y, 1, -1, 1, -1, 1);
+        odds(y, 1, 27, 10);
+        odds(y, 2, 12, 5);
+        Check.give(y, 1, 1, -1, 1, -1);
+        odds(y, 5, 5, 4);
+        Check.give(y, 1, 1, 1, 1, 1);
+        odds(y, 5, 3, 2);
+        odds(y, 2, 36, 25);
+        odds(y, 4, 39, 25);
     }
 
     private static void sawNumbers() {

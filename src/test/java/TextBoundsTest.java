@@ -35,6 +35,7 @@ public final class TextBoundsTest {
         itemsCounted();
         emptyThen();
         readAnew();
+        toldAnew();
         CHECK.end();
     }
 
@@ -418,8 +419,9 @@ public final class TextBoundsTest {
         String text = "tmsm;f6 9 10 1 3;f8 3 4 2 6;h9;";
         for (String next : new String[] {text, "tmsm;f6 9 10 1 3;", "", "tmsmwww;" + FAMILY.repeat(5)}) {
             HermitDues x = Check.told(text);
+            Check.years(x, 4);
             Check.give(x, 0, 1, 0);
-            Check.years(x, 9);
+            Check.years(x, 5);
             x.keep(0);
             x.keep(1);
             for (int i = 0; i < 6; i++) {
@@ -446,5 +448,29 @@ public final class TextBoundsTest {
             CHECK.same("back(1)", x.back(1), STATE);
             CHECK.same("saw() after six", x.saw(0, 1), 1);
         }
+    }
+
+    /** What is asked hangs on the latest text alone: each one tells less than the one ahead of it. */
+    private static void toldAnew() {
+        CHECK.sentence("THE TEXT tells all .. Read anew: as told");
+        HermitDues x = new HermitDues();
+        toldAnew(x, "tmsmsms;f20 20 0 0 63;f20 20 0 0 63;h1;", 120, 60, 239, 2, 1);
+        toldAnew(x, "tmm;f9 9 1 0 63;h63;", 13, 12, 3, 0, 63);
+        toldAnew(x, "tm;f9 9 3 0 1;f5 5 0 0 1;", 9, 0, 3, 1, 0);
+        toldAnew(x, "tw;f9 9 30 0 0;h7;", 0, -30, 1, 0, 7);
+        toldAnew(x, "f9 9 4 0 32;", 0, -4, 1, 1, 0);
+        toldAnew(x, "tm;", 0, NO, 1, 0, 0);
+        toldAnew(x, "h2;", 0, NO, 1, 0, 2);
+        toldAnew(x, "", 0, NO, 1, 0, 0);
+        toldAnew(x, "tmm;f7 7 0 0 2;f7 7 0 0 2;f7 7 0 0 4;h2;", 14, 0, 13, 1, 2);
+    }
+
+    private static void toldAnew(HermitDues x, String text, int most, int fair, int ways, int cheese, int walks) {
+        Check.tell(x, text);
+        CHECK.same("most(-1) of " + text, x.most(-1), most);
+        CHECK.same("fair(-1) of " + text, x.fair(-1), fair);
+        CHECK.same("ways(-1) of " + text, x.ways(-1), ways);
+        CHECK.same("cheese(-1) of " + text, x.cheese(-1), cheese);
+        CHECK.same("WALKS of " + text, x.count(2), walks);
     }
 }
