@@ -67,6 +67,14 @@ public final class KindBoundsTest {
         Check.give(x, 0, 0, 0, 0, 0, 0);
         marks(x, 0, 70, 76, 70, 152, 169, 169);
         marks(x, 1, 0, 0, -30, 0, 69, 99);
+        // FORGOTTEN and YEARS are not the same number: one that was IT all the time, one that was IT in some
+        HermitDues y = Check.told("tmm;f20 20 1 0 0;f20 20 2 0 0;");
+        y.gives(0, 0);
+        Check.years(y, 90);
+        y.gives(1, 1);
+        Check.years(y, 9);
+        marks(y, 0, 20, 21, 19, 42, 19, 119);
+        marks(y, 1, 20, 21, 18, 42, 108, 119);
     }
 
     private static void leastMarks() {

@@ -4,7 +4,10 @@ import java.util.Random;
 public final class ModelTest {
     private static final Check CHECK = new Check("ModelTest");
     private static final int RUNS = 2000;
+    // nothing is promised of an object behind its 512th call
     private static final int CALLS = 512;
+    // more calls than any text takes to be told
+    private static final int TO_TELL = 200;
     private static final int TEXTS = 20000;
     private static final String NOISE = "tmswfh;; 0123456789x\tT-";
 
@@ -40,7 +43,8 @@ public final class ModelTest {
 
     private void go() {
         tell(text());
-        while (calls < CALLS && CHECK.allRight()) {
+        // a step asks two at most
+        while (calls < CALLS - 1 && CHECK.allRight()) {
             step();
         }
     }
@@ -145,7 +149,7 @@ public final class ModelTest {
 
     private void step() {
         int kind = random.nextInt(100);
-        if (kind < 2) {
+        if (kind < 2 && calls < CALLS - TO_TELL) {
             read();
         } else if (kind < 45) {
             act();

@@ -80,10 +80,7 @@ public final class RefusedTest {
         HermitDues x = Check.told(SMALL);
         x.gives(1, 0);
         x.keep(1);
-        Check.type(x, GREAT);
-        while (x.count(5) < 150) {
-            x.type(' ');
-        }
+        Check.type(x, GREAT + " ".repeat(150 - GREAT.length()));
         return x;
     }
 
