@@ -41,8 +41,6 @@ public final class HermitDues {
     private static final int KIND_WIFE = 3;
     private static final int KIND_TWELFTH = 4;
     private static final int KIND_CHILD = 5;
-    private static final int[] KIND_ABOVE = {0, 0, 0, 1, 2, 0};
-    private static final int[] TRACE_OF_KIND = {1, 10, 100, 1000, 10000, 100000};
 
     private final Text text = new Text();
     private Told told = new Told();
@@ -314,10 +312,25 @@ public final class HermitDues {
     // ---- kinds, images
 
     public int mark(int kind, int f) {
-        if (kind < KIND_FAMILY || kind > KIND_CHILD || !told.hasFamily(f)) {
+        if (!told.hasFamily(f)) {
             return NO;
         }
-        return markAs(kind, f);
+        switch (kind) {
+            case KIND_FAMILY:
+                return asFamily(f);
+            case KIND_BUTCHER:
+                return asButcher(f);
+            case KIND_AUNT:
+                return asAunt(f);
+            case KIND_WIFE:
+                return asWife(f);
+            case KIND_TWELFTH:
+                return asTwelfth(f);
+            case KIND_CHILD:
+                return asChild(f);
+            default:
+                return NO;
+        }
     }
 
     public int keep(int image) {
@@ -371,7 +384,9 @@ public final class HermitDues {
         ribbons.seen = 0;
         plans.begin();
         visits.begin();
-        Arrays.fill(kept, false);
+        for (int image = 0; image < IMAGE_COUNT; image++) {
+            kept[image] = false;
+        }
     }
 
     private static int orNone(int number) {
@@ -442,25 +457,36 @@ public final class HermitDues {
         return 1;
     }
 
-    /** Calls itself for the KIND above: three levels at most, as KIND_ABOVE tells. */
-    private int markAs(int kind, int f) {
-        traced += TRACE_OF_KIND[kind];
-        if (kind == KIND_FAMILY) {
-            return told.joyOfFamily(present.who, f);
-        }
-        int up = markAs(KIND_ABOVE[kind], f);
-        switch (kind) {
-            case KIND_BUTCHER:
-                return up + Integer.bitCount(present.turnsOf(f));
-            case KIND_AUNT:
-                return up - told.numbers[f][DUE];
-            case KIND_WIFE:
-                return up * 2;
-            case KIND_TWELFTH:
-                return up + present.forgotten[f];
-            default:
-                return up + present.years;
-        }
+    // The bodies of the KINDS: each asks that of the KIND above it once, so THE TRACE counts both.
+
+    private int asFamily(int f) {
+        traced += 1;
+        return told.joyOfFamily(present.who, f);
+    }
+
+    private int asButcher(int f) {
+        traced += 10;
+        return asFamily(f) + Integer.bitCount(present.turnsOf(f));
+    }
+
+    private int asAunt(int f) {
+        traced += 100;
+        return asFamily(f) - told.numbers[f][DUE];
+    }
+
+    private int asWife(int f) {
+        traced += 1000;
+        return asButcher(f) * 2;
+    }
+
+    private int asTwelfth(int f) {
+        traced += 10000;
+        return asAunt(f) + present.forgotten[f];
+    }
+
+    private int asChild(int f) {
+        traced += 100000;
+        return asFamily(f) + present.years;
     }
 
     /** What a text has told: the TURNS, the FAMILIES, the WALKS; and JOY, which follows from them and who is IT. */

@@ -20,6 +20,7 @@ public final class FaceTest {
         "int entry(int,int,int)", "long odds(int,int)", "int saw(int,int)", "int forget()", "int ways(int)", "int cheese(int)",
         "int free(int)", "int mark(int,int)", "int keep(int)", "int back(int)", "int count(int)", "long trace()",
     };
+    private static final Set<String> FACE_NAMES = faceNames();
     private static final Set<String> CONSTANTS = Set.of("BAD", "STATE", "FULL", "NONE", "NO");
 
     public static void main(String[] args) throws IOException {
@@ -27,6 +28,14 @@ public final class FaceTest {
         nested();
         source();
         CHECK.end();
+    }
+
+    private static Set<String> faceNames() {
+        Set<String> names = new TreeSet<>();
+        for (String signature : FACE) {
+            names.add(signature.substring(signature.indexOf(' ') + 1, signature.indexOf('(')));
+        }
+        return names;
     }
 
     private static void holds(String what, boolean so) {
@@ -78,6 +87,7 @@ public final class FaceTest {
             holds("some twenty fields: " + c, fields <= 20);
             for (Method m : c.getDeclaredMethods()) {
                 holds("seven parameters: " + m, m.getParameterCount() <= 7);
+                holds("own name: " + m, !FACE_NAMES.contains(m.getName()));
             }
         }
     }
@@ -98,5 +108,29 @@ public final class FaceTest {
             String use = library.group();
             holds("library: " + use, Set.of("System.arraycopy", "Arrays.fill", "Math.min", "Math.max", "Integer.bitCount").contains(use));
         }
+        // Arrays.fill is for arrays of numbers alone, and a boolean is none
+        Matcher booleans = Pattern.compile("boolean\\[\\] (\\w+)").matcher(code);
+        while (booleans.find()) {
+            String name = booleans.group(1);
+            holds("fill of " + name, !Pattern.compile("Arrays\\.\\w+\\((\\w+\\.)?" + name + "\\b").matcher(code).find());
+        }
+        methods(code);
+    }
+
+    /** A method's first line is indented by 4 or 8 and ends with "{"; its last is the next "}" of the same indent. */
+    private static void methods(String code) {
+        Matcher m = Pattern.compile("(?ms)^( {4}| {8})(?! )([\\w\\[\\] ]+ )?(\\w+)\\([^)]*\\) \\{$(.*?)^\\1\\}$").matcher(code);
+        int many = 0;
+        while (m.find()) {
+            if (Set.of("if", "for", "while", "switch").contains(m.group(3))) {
+                continue;
+            }
+            many++;
+            holds("some sixty lines: " + m.group(3), m.group(4).lines().count() <= 60);
+            boolean callsItself = Pattern.compile("\\b" + m.group(3) + "\\(").matcher(m.group(4)).find();
+            boolean carriesDepth = m.group(3).equals("tryFrom") && m.group(4).contains("> MAX_");
+            holds("no recursion without a guard on the depth: " + m.group(3), !callsItself || carriesDepth);
+        }
+        holds("methods were found: " + many, many >= FACE.length);
     }
 }
